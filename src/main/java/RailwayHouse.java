@@ -289,7 +289,7 @@ public final class RailwayHouse {
             return ROOM;
         }
         int train = yard.bringIn(inward, length, greatest, brake, number);
-        putNumber(layout.signalsAt[layout.wayOut(inward, 0)], number);
+        putNumber(layout.signalOf(layout.wayOut(inward, 0)), number);
         return train;
     }
 
@@ -731,6 +731,11 @@ public final class RailwayHouse {
             return signal >= 0 && signal < signals;
         }
 
+        /** The signal at an end; NONE, if there is none, or no such end. */
+        int signalOf(int end) {
+            return end >= 0 && end < sections * ENDS ? signalsAt[end] : NONE;
+        }
+
         boolean isPoint(int section) {
             return section >= 0 && section < sections && kinds[section] == 1;
         }
@@ -1153,6 +1158,9 @@ public final class RailwayHouse {
         }
 
         private void goOut(int out, int depth) {
+            if (out == NONE) {
+                return;
+            }
             outs[depth] = out;
             if (layout.signalsAt[out] != NONE || layout.joints[out] == NONE) {
                 finish(depth + 1);
@@ -1375,7 +1383,8 @@ public final class RailwayHouse {
         private final int[] seen = new int[MOST_ROUTES];
         private final boolean[] barred = new boolean[MOST_ROUTES];
         private final boolean[] shown = new boolean[MOST_ROUTES];
-        private final boolean[] came = new boolean[MOST_ROUTES];
+        // A bit for each route that came into use in this tick.
+        private long came = 0L;
         private int commands = 0;
         private int[] row = new int[ROW_ROUTES + MOST_ROUTES];
         private int[] rowBefore = new int[ROW_ROUTES + MOST_ROUTES];
@@ -1394,8 +1403,8 @@ public final class RailwayHouse {
             commands = commanded;
             for (int r = 0; r < MOST_ROUTES; r++) {
                 endRoute(r);
-                came[r] = false;
             }
+            came = 0L;
             keepFirstRows();
         }
 
@@ -1423,7 +1432,7 @@ public final class RailwayHouse {
         }
 
         boolean cameIntoUse(int route) {
-            return came[route];
+            return (came >>> route & 1L) == 1L;
         }
 
         int tell(int route, int what) {
@@ -1445,6 +1454,9 @@ public final class RailwayHouse {
 
         /** All that is told of a route, in one number. */
         int packed(int r) {
+            if (phases[r] == 0) {
+                return 0;
+            }
             int flags = (barred[r] ? 1 : 0) + (shown[r] ? 2 : 0);
             return phases[r] | counts[r] << 3 | flags << 8 | given[r] << 10 | seen[r] << 14;
         }
@@ -1617,9 +1629,7 @@ public final class RailwayHouse {
         // ---- the cycle
 
         void forgetTick() {
-            for (int r = 0; r < ways.count; r++) {
-                came[r] = false;
-            }
+            came = 0L;
         }
 
         void doCycle() {
@@ -1627,7 +1637,9 @@ public final class RailwayHouse {
                 return;
             }
             for (int r = 0; r < ways.count; r++) {
-                stepRoute(r);
+                if (phases[r] != 0) {
+                    stepRoute(r);
+                }
             }
             int[] oldest = rowBefore;
             rowBefore = row;
@@ -1638,7 +1650,7 @@ public final class RailwayHouse {
         private void stepRoute(int r) {
             if ((phases[r] == CLEAR || phases[r] == WAITING) && isFirstOccupied(r)) {
                 enterPhase(r, IN_USE, 0);
-                came[r] = true;
+                came |= 1L << r;
             }
             switch (phases[r]) {
                 case CALLED:
@@ -2332,7 +2344,7 @@ public final class RailwayHouse {
             int rest = t.speed;
             // Each section is at least 1 long, and the front may stand at an end at first.
             for (int n = 0; n < 20 && rest > 0; n++) {
-                int room = t.outside ? rest : layout.lengths[t.way[t.under - 1]] - t.place;
+                int room = t.outside || t.under == 0 ? rest : layout.lengths[t.way[t.under - 1]] - t.place;
                 int far = Math.min(room, rest);
                 t.place += far;
                 rest -= far;
@@ -2475,7 +2487,7 @@ public final class RailwayHouse {
         }
 
         void endHolds(int time) {
-            for (int h = 0; h < holds; h++) {
+            for (int h = 0; h < holds && held > 0; h++) {
                 if (holdStates[h] == COUNTS && holdUntils[h] <= time) {
                     endHold(h);
                 }
