@@ -39,8 +39,6 @@ public final class RailwayHouse {
         journeys = new Journeys(timetable);
         single = new Line();
         berths = new int[MOST_SIGNALS];
-        lost = 0;
-        time = 0;
         beginYard();
     }
 
@@ -812,7 +810,6 @@ public final class RailwayHouse {
 
         void begin() {
             length = 0;
-            flaw = 0;
             flawAt = NONE;
         }
 
@@ -1405,12 +1402,12 @@ public final class RailwayHouse {
                 endRoute(r);
             }
             came = 0L;
-            keepFirstRows();
+            keepFirstRow();
         }
 
-        void keepFirstRows() {
+        /** The row ahead of a first cycle; that cycle makes it the row before. */
+        void keepFirstRow() {
             writeRow(row, 0);
-            writeRow(rowBefore, 0);
         }
 
         void become(Channel other) {
@@ -1419,7 +1416,6 @@ public final class RailwayHouse {
             System.arraycopy(other.given, 0, given, 0, MOST_ROUTES);
             System.arraycopy(other.seen, 0, seen, 0, MOST_ROUTES);
             System.arraycopy(other.row, 0, row, 0, row.length);
-            System.arraycopy(other.rowBefore, 0, rowBefore, 0, rowBefore.length);
             for (int r = 0; r < MOST_ROUTES; r++) {
                 barred[r] = other.barred[r];
                 shown[r] = other.shown[r];
@@ -1951,7 +1947,7 @@ public final class RailwayHouse {
                 for (int r = 0; r < ways.count; r++) {
                     channels[c].restore(r, disk[r]);
                 }
-                channels[c].keepFirstRows();
+                channels[c].keepFirstRow();
             }
             return onDisk;
         }

@@ -7,6 +7,7 @@ public final class DiskTest {
         whatTheDiskDoesNotHold();
         yardGoesOnWithoutPower();
         commandsAtAStart();
+        reportsAreForgotten();
         startOfAHouseThatIsDown();
         firstRowsBehindAStart();
         Check.end("DiskTest");
@@ -157,6 +158,28 @@ public final class DiskTest {
         Check.due("on its way", x.lie(4), 2);
         x.tick(1);
         Check.due("there", x.lie(4), 0);
+    }
+
+    /** What was reported ahead of a start is not used, though the reports behind it are missing. */
+    private static void reportsAreForgotten() {
+        RailwayHouse x = Check.house("point 1 1;plain 1 1;join 0 t 1 a;");
+        x.tick(1);
+        for (int s = 0; s < 2; s++) {
+            Check.due("free", x.used(0, s), 0);
+            x.force(0, s, -2);
+        }
+        Check.due("lies", x.used(1, 0), 0);
+        x.force(1, 0, -2);
+        x.cut();
+        x.start();
+        x.tick(1);
+        Check.due("not known", x.used(0, 0), 1);
+        Check.due("not known", x.used(0, 1), 1);
+        Check.due("not known", x.used(1, 0), 2);
+        x.force(0, 0, -1);
+        x.tick(1);
+        Check.due("free", x.used(0, 0), 0);
+        Check.due("what is forced stays so", x.used(0, 1), 1);
     }
 
     private static void startOfAHouseThatIsDown() {

@@ -12,6 +12,7 @@ public final class InterlockingTest {
         whoHoldsWhat();
         freedStepByStep();
         boundPoints();
+        sharedOverlap();
         moves();
         usedReports();
         usedPoints();
@@ -304,6 +305,25 @@ public final class InterlockingTest {
         x.tick(1);
         Check.due("set", x.set(0), 1);
         Check.due("it must move, and is another one's", x.set(2), 0);
+    }
+
+    /** Two tracks come to one point: both routes have it for their overlap, each in another lie. */
+    private static void sharedOverlap() {
+        RailwayHouse x = ticked("plain 9 9;plain 9 9;plain 9 9;plain 9 9;point 1 9;plain 9 9;join 0 b 2 a;join 1 b 3 a;"
+                + "join 2 b 4 l;join 3 b 4 r;join 4 t 5 a;signal 0 b;signal 1 b;signal 2 b;signal 3 b;");
+        Check.due("overlap", x.route(0, 3), 4);
+        Check.due("overlap", x.route(1, 3), 4);
+        Check.due("a point in two lies", x.conflict(0, 1), 4);
+        Check.due("set", x.set(0), 1);
+        Check.due("the overlap's point is bound", x.set(1), 0);
+        x.cancel(0);
+        Check.due("set", x.set(1), 1);
+        Check.due("the overlap's point is bound", x.set(0), 0);
+        RailwayHouse y = ticked("plain 9 9;plain 9 9;plain 9 9;plain 9 9;point 1 9;plain 9 9;join 0 b 2 a;join 1 b 3 a;"
+                + "join 2 b 4 t;join 4 l 5 a;join 3 b 5 b;signal 0 b;signal 1 b;signal 2 b;signal 3 b;");
+        Check.due("an overlap come into by t", y.route(0, 4), 0);
+        Check.due("set", y.set(0), 1);
+        Check.due("another overlap", y.set(1), 1);
     }
 
     private static void moves() {

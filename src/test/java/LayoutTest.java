@@ -102,6 +102,12 @@ public final class LayoutTest {
         fault("plain 00001 1;", 1, 6);
         fault("plainplai 1 1;", 1, 0);
         fault("plainpla 1 1;", 3, 0);
+        fault("azaz 1 1;", 3, 0);
+        fault("`", 1, 0);
+        fault("{", 1, 0);
+        fault("plain 9090 1;", 4, 6);
+        fault("plain /", 1, 6);
+        fault("plain :", 1, 6);
         fault("plain 1 1; 12345", 1, 11);
         fault("plain 61 1$", 4, 6);
         fault("plain 1 1$", 1, 9);
@@ -199,13 +205,15 @@ public final class LayoutTest {
         x.hold(0, 0, 1, 100);
         x.line(0, 0, 1, 0, 1);
         x.dispatch();
+        x.interpose(0, 4);
         x.enter(0, 3, 3, 1, 77);
-        x.tick(1);
+        Check.due("a number is lost", x.count(9), 1);
+        x.tick(2);
         x.force(0, 2, 1);
         x.set(0);
         x.release(0);
         x.interpose(1, 5);
-        x.sync();
+        Check.due("sync", x.sync(), 1);
         x.fault(1, 3);
         x.cut();
         Check.due("load", Check.load(x, Check.ROW), 4);
@@ -215,6 +223,7 @@ public final class LayoutTest {
         }
         Check.due("option stays", x.option(0, 0), 2);
         Check.due("turn stays", x.turn(0, 2), 1);
+        Check.due("berth", x.signal(0, 3), 0);
         Check.due("berth", x.signal(1, 3), 0);
         Check.due("fault", x.channel(1, 1), 0);
         Check.due("used", x.used(0, 0), 1);
@@ -223,6 +232,9 @@ public final class LayoutTest {
         Check.due("nothing is forced", x.used(0, 2), 0);
         x.cut();
         Check.due("nothing is on the disk", x.start(), 0);
+        Check.due("nothing is on the disk", x.routeAt(0, 0, 0), 0);
+        x.enter(0, 3, 3, 1, 78);
+        Check.due("a new train stands", x.train(0, 2), 0);
     }
 
     private static void clearAll() {

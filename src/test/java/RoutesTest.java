@@ -78,7 +78,7 @@ public final class RoutesTest {
         routes("plain 9 9;point 1 9;plain 9 9;point 1 9;plain 9 9;"
                 + "join 0 b 1 t;join 1 l 2 a;join 2 b 3 l;join 1 r 3 r;join 3 t 4 a;signal 0 b;signal 2 b;",
                 "0 1 3 / 1 2 / 2 6", "0 -9 -9 / 1 3 4 / 3 7", "1 -9 -9 / 3 4 / 6 2");
-        // Behind a second point of the way, whose other leg comes to leg r of the overlap.
+        // The overlap is a point, and the flank is another one.
         routes("plain 9 9;point 1 9;plain 9 9;point 1 9;plain 9 9;point 1 9;plain 9 9;"
                 + "join 0 b 1 t;join 1 l 2 a;join 2 b 3 l;join 1 r 5 l;join 5 r 6 a;join 3 t 4 a;join 3 r 5 t;"
                 + "signal 0 b;signal 2 b;",

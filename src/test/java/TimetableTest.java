@@ -9,6 +9,7 @@ public final class TimetableTest {
         oneJourney();
         changesAndFares();
         sameThree();
+        sameArrival();
         noJourney();
         fourLegs();
         refusedJourneys();
@@ -145,6 +146,26 @@ public final class TimetableTest {
         options(x, 0, 2, 0, "25 1 200 / 3 0 1 / 0 0 1", "30 0 100 / 1 0 2");
     }
 
+    /** With the same arrival fewer changes are told first, though they are dearer; a dearer one with as many goes. */
+    private static void sameArrival() {
+        RailwayHouse x = new RailwayHouse();
+        x.station(1, 5, 9);
+        for (int i = 0; i < 8; i++) {
+            x.run(1);
+        }
+        stops(x, 0, 0, 0, 10, 1, 20, 20);
+        stops(x, 1, 1, 30, 30, 2, 100, 100);
+        stops(x, 2, 0, 0, 10, 3, 20, 20);
+        stops(x, 3, 3, 25, 25, 4, 35, 35);
+        stops(x, 4, 4, 40, 40, 2, 100, 100);
+        options(x, 0, 2, 0, "100 1 740 / 0 0 1 / 1 0 1", "100 2 300 / 2 0 1 / 3 0 1 / 4 0 1");
+        x.stopAt(2, 5, 50, 50);
+        stops(x, 5, 5, 54, 54, 2, 100, 100);
+        options(x, 0, 2, 0, "100 1 740 / 0 0 1 / 1 0 1", "100 2 300 / 2 0 1 / 3 0 1 / 4 0 1");
+        stops(x, 6, 5, 55, 55, 2, 100, 100);
+        options(x, 0, 2, 0, "100 1 200 / 2 0 2 / 6 0 1");
+    }
+
     private static void noJourney() {
         RailwayHouse x = new RailwayHouse();
         x.run(1);
@@ -221,6 +242,12 @@ public final class TimetableTest {
         Check.due("came", x.count(12), 5);
         Check.due("a paid one is given back", x.give(4), 1);
         Check.due("not gone", x.count(11), 3);
+        x.run(1);
+        stops(x, 1, 0, 0, 0, 1, 1, 1);
+        Check.due("another run's seats", x.hold(1, 0, 1, 0), 5);
+        Check.due("seat", x.holdAt(5, 0), 0);
+        Check.due("run", x.holdAt(5, 2), 1);
+        Check.due("no seat", x.hold(1, 0, 1, 0), Check.STATE);
     }
 
     private static void seatsInTime() {

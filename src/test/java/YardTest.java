@@ -88,6 +88,11 @@ public final class YardTest {
         train(x, 0, "1 10 1 0 1 1 1");
         x.tick(1);
         train(x, 0, "1 10 0 0 1 1 1");
+        x.stand(0, true);
+        Check.load(x, Check.ROW);
+        x.enter(0, 2, 9, 1, 3);
+        train(x, 0, "0 0 0 0 3 0 1");
+        Check.due("a new train 0 is not made to stand", x.stand(0, false), 0);
     }
 
     private static void standsAtAPoint() {
