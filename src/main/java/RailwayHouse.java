@@ -1644,6 +1644,7 @@ public final class RailwayHouse {
         }
 
         private void stepRoute(int r) {
+            // Who comes into use is dealt with as in use in this same cycle.
             if ((phases[r] == CLEAR || phases[r] == WAITING) && isFirstOccupied(r)) {
                 enterPhase(r, IN_USE, 0);
                 came |= 1L << r;
