@@ -16,12 +16,12 @@ public final class AnyCallTest {
                 Check.load(x, run % 4 == 1 ? Check.STATION : Check.ROW);
             }
             for (int i = 0; i < 400; i++) {
-                String before = i % 5 == 0 ? all(x) : null;
+                String before = i % 5 == 0 ? Told.all(x) : null;
                 int kind = random.nextInt(100) < 25 ? 22 : random.nextInt(37);
                 int answer = call(x, kind);
                 if (before != null && answer < 0 && answer >= -4) {
                     refused++;
-                    Check.dueText("what there is behind refused call " + kind, all(x), before);
+                    Check.dueText("what there is behind refused call " + kind, Told.all(x), before);
                 }
             }
         }
@@ -90,45 +90,5 @@ public final class AnyCallTest {
         int answer = x.load();
         Check.due("load", answer > 0 || answer <= -11 && answer >= -18);
         return 0;
-    }
-
-    private static String all(RailwayHouse x) {
-        StringBuilder text = new StringBuilder();
-        for (int i = 0; i <= 14; i++) {
-            text.append(x.count(i)).append(' ');
-        }
-        text.append(x.place()).append(' ').append(x.audit());
-        for (int s = 0; s < x.count(0); s++) {
-            for (int what = 0; what <= 8; what++) {
-                text.append(' ').append(x.section(s, what));
-            }
-            text.append(' ').append(x.holder(s)).append(' ').append(x.used(0, s)).append(' ').append(x.used(1, s));
-            text.append(' ').append(x.lie(s)).append(' ').append(x.trainOn(s));
-        }
-        for (int i = 0; i < x.count(1); i++) {
-            text.append(" / ").append(x.signal(i, 2)).append(' ').append(x.signal(i, 3));
-        }
-        for (int c = 0; c < 3; c++) {
-            text.append(" / ").append(x.channel(c, 0)).append(' ').append(x.channel(c, 1));
-            for (int r = 0; r < x.count(2); r++) {
-                text.append(" / ").append(Check.routeIn(x, c, r));
-            }
-        }
-        for (int t = 0; t < x.count(5); t++) {
-            for (int what = 0; what <= 6; what++) {
-                text.append(' ').append(x.train(t, what));
-            }
-            text.append(' ').append(x.leave(t));
-        }
-        for (int h = 0; h < x.count(12); h++) {
-            text.append(" / ").append(x.holdAt(h, 0)).append(' ').append(x.holdAt(h, 1));
-        }
-        for (int k = 0; x.option(k, 0) >= 0; k++) {
-            text.append(" / ").append(x.option(k, 0)).append(' ').append(x.option(k, 2)).append(' ').append(x.leg(k, 0, 0));
-        }
-        for (int k = 0; x.turn(k, 0) >= 0; k++) {
-            text.append(" / ").append(x.turn(k, 0)).append(' ').append(x.turn(k, 1));
-        }
-        return text.toString();
     }
 }
