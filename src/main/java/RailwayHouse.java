@@ -2105,7 +2105,6 @@ public final class RailwayHouse {
         private final int[] partEnds = new int[MOST_PARTS];
         private final int[] partLimits = new int[MOST_PARTS];
         private int parts = 0;
-        private int firstPart = 0;
         private int leaveNow = NONE;
 
         Yard(Layout layout) {
@@ -2276,7 +2275,8 @@ public final class RailwayHouse {
         }
 
         private boolean keepsLimits(int v, int from, int to) {
-            int begins = firstPart;
+            // The front has come into the first part, so every move ends behind its beginning.
+            int begins = from;
             for (int i = 0; i < parts && begins < to; i++) {
                 if (partEnds[i] > from && partLimits[i] < v) {
                     return false;
@@ -2293,7 +2293,6 @@ public final class RailwayHouse {
             for (int i = 0; i < behind; i++) {
                 at -= layout.lengths[t.way[i]];
             }
-            firstPart = at;
             parts = 0;
             for (int i = 0; i < t.under; i++) {
                 at = addPart(t.way[i], at);

@@ -48,6 +48,7 @@ public final class BoundsHouseTest {
         diskWithNothing();
         powerOnAndOff();
         diskHoldsWhatWasSynced();
+        diskHoldsWhatWasGivenBack();
         Check.end("BoundsHouseTest");
     }
 
@@ -636,6 +637,17 @@ public final class BoundsHouseTest {
         x.tick(1);
         voting("three rows", x, "000");
         Check.due("no signal", x.signal(1, 2), 0);
+        // A row tells whether a route is BARRED: a late one does, when the others do not any more.
+        RailwayHouse barred = house(inPhase(3));
+        barred.force(0, 4, 1);
+        barred.tick(2);
+        barred.fault(1, 5);
+        barred.tick(1);
+        voting("barred in all rows", barred, "111");
+        Check.due("set", barred.set(0), 1);
+        barred.tick(1);
+        phase("barred no more", barred, 0, "2 0 0 1 0 0");
+        voting("barred in the late row", barred, "101");
         // Two rows, unlike.
         RailwayHouse y = house(ticked(Check.ROW));
         y.fault(0, 2);
@@ -715,6 +727,18 @@ public final class BoundsHouseTest {
         new Twins("power is cut", cutOff.andThen(x -> x.cut())).refuses("reset", Check.STATE, x -> x.reset()).end();
         Consumer<RailwayHouse> going = all.andThen(x -> x.enter(0, 1, 5, 1, 7)).andThen(x -> x.tick(1));
         Check.due("a train goes, and it is not down", house(going.andThen(x -> x.fault(1, 2)).andThen(x -> x.tick(1))).reset(), 1);
+        // It becomes what the first one in the vote is, its row too: still or late then, it is like the others.
+        for (int fault : new int[] {1, 5}) {
+            RailwayHouse becomes = house(cutOff.andThen(x -> x.set(0)).andThen(x -> x.tick(3)));
+            Check.due("reset", becomes.reset(), 1);
+            phase("as the first one", becomes, 0, "3 0 0 1 0 0");
+            becomes.fault(1, fault);
+            becomes.tick(1);
+            voting("as the first one", becomes, "111");
+            becomes.force(0, 1, 1);
+            becomes.tick(1);
+            voting("then it is still, or late", becomes, "101");
+        }
         Consumer<RailwayHouse> down = x -> {
             x.fault(0, 4);
             x.set(2);
@@ -824,5 +848,44 @@ public final class BoundsHouseTest {
         all.set(1);
         all.set(2);
         Check.due("all routes", all.sync(), 3);
+    }
+
+    /** "what was given back and SEEN is as it holds" */
+    private static void diskHoldsWhatWasGivenBack() {
+        for (int k = 0; k < 8; k++) {
+            String due = k < 7 ? "4 0 0 1 " + k + " " + ((2 << k) - 1) : "7 4 0 1 8 255";
+            RailwayHouse x = house(gone(k));
+            phase("given back", x, 0, due);
+            Check.due("sync", x.sync(), 1);
+            x.cut();
+            Check.due("start", x.start(), 1);
+            phase("given back, from the disk", x, 0, due);
+            RailwayHouse y = house(gone(k));
+            y.release(0);
+            y.sync();
+            y.cut();
+            y.start();
+            phase("forced free, from the disk", y, 0, "6 20" + due.substring(3));
+            Check.due("held", y.holder(k), Check.NONE);
+            Check.due("held", y.holder(8), k < 7 ? 0 : Check.NONE);
+            Check.due("overlap", y.holder(9), 0);
+        }
+    }
+
+    /** A route of eight sections, of which a train has left the first k. */
+    private static Consumer<RailwayHouse> gone(int k) {
+        StringBuilder eight = new StringBuilder("plain 1 1;".repeat(10));
+        for (int i = 1; i < 10; i++) {
+            eight.append("join ").append(i - 1).append(" b ").append(i).append(" a;");
+        }
+        return ticked(eight + "signal 0 b;signal 8 b;").andThen(x -> {
+            x.set(0);
+            x.tick(2);
+            for (int i = 0; i <= k; i++) {
+                x.force(0, i, 0);
+                x.force(0, i + 1, 1);
+                x.tick(1);
+            }
+        });
     }
 }

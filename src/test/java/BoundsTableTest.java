@@ -713,8 +713,11 @@ public final class BoundsTableTest {
         x.tick(50);
         x.tick(50);
         x.station(0, 0, 9);
-        run(x, 1, 0, 0, 0, 1, 1, 1);
+        run(x, 2, 0, 0, 0, 1, 1, 1);
         x.hold(0, 0, 1, 900);
+        x.hold(0, 0, 1, 900);
+        x.pay(0);
+        x.give(1);
         x.journey(0, 1, 0);
         x.line(0, 0, 1, 0, 1);
         x.dispatch();

@@ -10,6 +10,7 @@ public final class BoundsYardTest {
     public static void main(String[] args) {
         threeTicksToNone();
         backAgain();
+        lyingAnew();
         blockedPoints();
         pointsThatThereAreNot();
         numbersOfTrains();
@@ -116,6 +117,25 @@ public final class BoundsYardTest {
         for (int i = 0; i < due.length; i++) {
             y.tick(1);
             Check.due("to where it came from, tick " + (i + 1), y.lie(1), due[i]);
+        }
+    }
+
+    /** "A point lies to 0 at first": behind a load() too, wherever it lay or went to, and nothing commands it. */
+    private static void lyingAnew() {
+        for (int ticks = 1; ticks <= 6; ticks++) {
+            RailwayHouse x = house(ticked("point 1 1;plain 1 1;point 1 1;"));
+            x.move(0, 1);
+            x.move(2, 1);
+            x.block(2, true);
+            x.tick(ticks);
+            Check.load(x, "point 1 1;point 1 1;point 1 1;");
+            for (int i = 0; i < 7; i++) {
+                for (int point = 0; point < 3; point++) {
+                    Check.due("lie of " + point + " behind a load, tick " + i, x.lie(point), 0);
+                }
+                x.tick(1);
+            }
+            Check.due("not blocked", x.block(2, false), 0);
         }
     }
 
@@ -437,6 +457,15 @@ public final class BoundsYardTest {
         RailwayHouse y = house(ticked("plain 22 9;plain 9 9;join 0 b 1 a;signal 0 b;"));
         y.enter(0, 1, 9, 5, 1);
         goes("brake 5", y, 0, "0 1 1", "0 3 2", "0 6 3", "0 10 4", "0 15 5", "0 21 6", "0 22 1", "0 22 0");
+        // The longest way to brake: 9 and 8 and so on down to 1 are 45; from 36 on, that is up to 81.
+        for (int length = 20; length <= 21; length++) {
+            RailwayHouse z = clear("plain 60 9;plain " + length + " 9;plain 9 9;join 0 b 1 a;join 1 b 2 a;signal 0 b;signal 1 b;");
+            z.enter(0, 1, 9, 1, 1);
+            z.tick(8);
+            Check.due("speed", z.train(0, 2), 8);
+            Check.due("leave", z.leave(0), 24 + length);
+            goes("brake 1, a signal at " + (60 + length), z, 0, length == 21 ? "0 45 9" : "0 44 8");
+        }
     }
 
     /** "from where its rear was when that began to where its front comes to, on a SECTION of a lesser LIMIT" */
@@ -663,6 +692,20 @@ public final class BoundsYardTest {
         Check.due("down", down.count(6), 1);
         Check.due("in use in a channel", down.routeAt(2, 0, 0), 4);
         Check.due("the number stays", down.signal(0, 3), 44);
+        // THE HOUSE is the first channel in THE VOTE: one that is still comes to no phase, one that is late does.
+        for (int first = 0; first <= 1; first++) {
+            RailwayHouse x = clear(Check.STATION);
+            x.interpose(0, 77);
+            x.fault(0, first == 0 ? 1 : 5);
+            x.fault(1, first == 0 ? 5 : 1);
+            x.force(0, 1, 1);
+            x.tick(1);
+            Check.due("channels 0 and 1 have the row of a cycle ago", x.channel(0, 0) * 100 + x.channel(1, 0) * 10 + x.channel(2, 0), 110);
+            Check.due("phase of the still one", x.routeAt(first, 0, 0), 3);
+            Check.due("phase of the late one", x.routeAt(1 - first, 0, 0), 4);
+            Check.due("its number", x.signal(0, 3), first == 0 ? 77 : 0);
+            Check.due("its number", x.signal(1, 3), first == 0 ? 0 : 77);
+        }
         // From WAITING, too.
         RailwayHouse waiting = clear(Check.STATION);
         waiting.interpose(0, 55);
