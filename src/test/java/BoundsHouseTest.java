@@ -29,6 +29,7 @@ public final class BoundsHouseTest {
         setWithSomethingHeld();
         setWithPointsBound();
         movesOfPoints();
+        flanksOfAPointThatIsHeld();
         twelveCyclesCalled();
         onlyFreePointsAreCommanded();
         tenCyclesWaiting();
@@ -376,6 +377,26 @@ public final class BoundsHouseTest {
             twins.refuses("move of " + point, Check.UNKNOWN, x -> x.move(point, 0));
         }
         twins.end();
+    }
+
+    /** "those of a point of its own, and FLANKS of it, as long as it HOLDS that point's SECTION" */
+    private static void flanksOfAPointThatIsHeld() {
+        Consumer<RailwayHouse> used = ticked("plain 9 9;point 1 9;plain 9 9;plain 9 9;point 1 9;"
+                + "join 0 b 1 t;join 1 l 2 a;join 2 b 3 a;join 1 r 4 r;signal 0 b;").andThen(x -> {
+                    x.set(0);
+                    x.tick(2);
+                    x.force(0, 1, 1);
+                    x.tick(1);
+                    x.force(0, 1, 0);
+                    x.tick(1);
+                });
+        phase("the point is held", house(used), 0, "4 0 0 1 0 1");
+        notTaken("its own point", used, x -> x.move(1, 1));
+        notTaken("its flank", used, x -> x.move(4, 1));
+        Consumer<RailwayHouse> left = used.andThen(x -> x.force(0, 2, 1)).andThen(x -> x.tick(1));
+        phase("the point is given back", house(left), 0, "4 0 0 1 1 3");
+        taken("its own point", left, x -> x.move(1, 1));
+        taken("its flank", left, x -> x.move(4, 1));
     }
 
     // ---- section 4: the cycle's counts

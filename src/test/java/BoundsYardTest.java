@@ -34,6 +34,7 @@ public final class BoundsYardTest {
         trainsOnSections();
         ticks();
         timeOfATick();
+        orderOfATick();
         numbersInBerths();
         lostNumbers();
         numbersGoOn();
@@ -620,6 +621,40 @@ public final class BoundsYardTest {
             singly.tick(1);
         }
         Check.due("the same", Told.future(once).equals(Told.future(singly)));
+    }
+
+    /** "TIME is one more; points go on; trains MOVE, by numbers; reports come; CYCLES, and the vote; BERTHS; holds .." */
+    private static void orderOfATick() {
+        RailwayHouse x = house(ticked("plain 2 9;point 1 9;plain 9 9;join 0 b 1 r;join 1 t 2 a;signal 0 b;"));
+        wild(x);
+        x.enter(0, 1, 1, 1, 1);
+        x.tick(4);
+        Check.due("it stands at the point", x.leave(0), 0);
+        x.move(1, 1);
+        x.tick(4);
+        Check.due("the point lies to none", x.lie(1), 2);
+        Check.due("its front is where it was", x.train(0, 0), 0);
+        x.tick(1);
+        Check.due("the point lies for it", x.lie(1), 1);
+        Check.due("it has moved in the same tick", x.train(0, 0), 1);
+        Check.due("which was reported", x.used(0, 1), 1);
+        RailwayHouse y = clear(Check.ROW);
+        y.enter(0, 1, 1, 1, 88);
+        y.run(1);
+        y.stopAt(0, 0, 0, 0);
+        y.stopAt(0, 1, 1, 1);
+        y.hold(0, 0, 1, 14);
+        y.tick(10);
+        Check.due("at the signal", y.train(0, 1), 10);
+        Check.due("clear", y.routeAt(0, 0, 0), 3);
+        Check.due("the hold counts", y.holdAt(0, 1), 0);
+        Check.due("one more", y.tick(1), 14);
+        Check.due("behind the signal", y.train(0, 0), 1);
+        Check.due("reported", y.used(0, 1), 1);
+        Check.due("used in its cycle", y.routeAt(0, 0, 0), 7);
+        Check.due("voted", y.signal(0, 2), 0);
+        Check.due("its number went on", y.signal(1, 3), 88);
+        Check.due("the hold is gone", y.holdAt(0, 1), 2);
     }
 
     // ---- berths
